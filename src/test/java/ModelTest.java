@@ -8,7 +8,7 @@ import java.util.List;
 import java.util.Map;
 import java.util.Random;
 
-/** Runs of 512 calls with drawn arguments (always the same ones): Ownshelf answers as Model does. */
+/** Runs of 512 drawn calls, the same ones each time: Ownshelf answers as Model does. */
 public final class ModelTest {
   private static final int RUNS = 1500;
   private static final int CALLS = 512;

@@ -40,6 +40,7 @@ public final class PromisesTest {
     knock();
     isSound();
     digest();
+    fullShelves();
     heldWalkers();
     throwingChangesNothing();
     Check.end("PromisesTest");
@@ -481,7 +482,8 @@ public final class PromisesTest {
     Check.due("BACK", x.order(1), (7 * 31 + 1) * 31 + 5);
     Check.due("empty", x.order(2), 7);
     put(x, 3, 99, 99, 99, 99);
-    Check.due("modulo", x.order(3), (int) ((7L * 923521 + 101L * (29791 + 961 + 31 + 1)) % 1000003));
+    int unbounded = 7 * 923521 + 101 * (29791 + 961 + 31 + 1);
+    Check.due("modulo", x.order(3), unbounded % 1000003);
     Check.noShelf("shelf -1", () -> x.order(-1));
     Check.noShelf("shelf 4", () -> x.order(4));
   }
@@ -641,6 +643,12 @@ public final class PromisesTest {
     Check.due("alike, WALK or not", x.areRows(0, 1), true);
     Check.due("other places", x.areRows(0, 2), false);
     Check.due("more", x.areRows(0, 3), false);
+    put(x, 1, 8, 7);
+    put(x, 2, 8, 7);
+    Check.due("the last two alike", x.areRows(1, 2), false);
+    x.make(2, 0, 0, 20, true);
+    put(x, 2, 3, 2, 8, 7);
+    Check.due("all but the first alike", x.areRows(1, 2), false);
     Check.due("fewer", x.areRows(3, 0), false);
     Check.due("itself", x.areRows(3, 3), true);
     Check.due("counts", counts(x, 0), "0 0 0 2 0");
@@ -730,6 +738,43 @@ public final class PromisesTest {
     Check.due("COUNTS stay", counts(x, 2), "0 1 0 3 1");
     Check.due("again", x.digest(), x.digest());
     Check.due("what is held stays", x.step(2), 50);
+  }
+
+  private static Ownshelf withFullShelves() {
+    Ownshelf x = new Ownshelf();
+    for (int shelf = 0; shelf < 2; shelf++) {
+      for (int k = 0; k < 20; k++) {
+        x.add(shelf, shelf == 0 ? k : 9);
+      }
+    }
+    return x;
+  }
+
+  /** With 20 things a loop steps 20 times, and asks once more. */
+  private static void walksWhole(String call, Walked made) {
+    Ownshelf x = withFullShelves();
+    made.call(x);
+    Check.due(call, x.count(0, 0) + " " + x.count(0, 1), "21 20");
+  }
+
+  private static void fullShelves() {
+    Check.part("full shelves");
+    walksWhole("contains", x -> x.contains(0, 50));
+    walksWhole("remove", x -> x.remove(0, 50));
+    walksWhole("clear", x -> x.clear(0));
+    walksWhole("addAll", x -> x.addAll(2, 0));
+    walksWhole("removeAll", x -> x.removeAll(0, 1));
+    walksWhole("retainAll", x -> x.retainAll(0, 1));
+    walksWhole("removeRow", x -> x.removeRow(0, 1, 2, 3));
+    walksWhole("text", x -> x.text(0));
+    walksWhole("sum", x -> x.sum(0));
+    Ownshelf x = withFullShelves();
+    Check.due("containsAll", x.containsAll(0, 1) + " " + counts(x, 1), "true 21 20 0 20 0");
+    x.make(2, 0, 1, 20, true);
+    x.addAll(2, 0);
+    Check.due("UNLIKE, none ALIKE in 20", x.add(2, 50) + " " + x.add(2, 19), "-9 0");
+    Check.due("areRows", x.areRows(0, 2), true);
+    Check.due("isSound", x.isSound(), true);
   }
 
   /** Whether shelf 0 (1, 2, 3, a walker held) still holds it after a call with shelf 1 (2). */
