@@ -24,6 +24,9 @@ public final class Ownshelf {
   private static final int SIZES = 4;
   private static final int COUNTS = 5;
 
+  private static final boolean HAD = true;
+  private static final boolean NOT_HAD = false;
+
   private static final int TRAITS = 5;
   private static final int HOUSE_NUMBERS = 5;
 
@@ -101,12 +104,12 @@ public final class Ownshelf {
 
   public int removeAll(int shelf, int other) throws IndexOutOfBoundsException {
     Shelf asked = shelfAt(shelf);
-    return told(asked.takeAllOf(shelfAt(other)));
+    return told(asked.takeWhat(HAD, shelfAt(other)));
   }
 
   public int retainAll(int shelf, int other) throws IndexOutOfBoundsException {
     Shelf asked = shelfAt(shelf);
-    return told(asked.keepAllOf(shelfAt(other)));
+    return told(asked.takeWhat(NOT_HAD, shelfAt(other)));
   }
 
   public int addRow(int shelf, int a, int b, int c)
@@ -118,13 +121,13 @@ public final class Ownshelf {
   public int removeRow(int shelf, int a, int b, int c)
       throws IndexOutOfBoundsException, IllegalArgumentException {
     Shelf asked = shelfAt(shelf);
-    return told(asked.takeAllOf(rowOf(a, b, c)));
+    return told(asked.takeWhat(HAD, rowOf(a, b, c)));
   }
 
   public int retainRow(int shelf, int a, int b, int c)
       throws IndexOutOfBoundsException, IllegalArgumentException {
     Shelf asked = shelfAt(shelf);
-    return told(asked.keepAllOf(rowOf(a, b, c)));
+    return told(asked.takeWhat(NOT_HAD, rowOf(a, b, c)));
   }
 
   public int removeNone(int shelf, boolean isRetaining) throws IndexOutOfBoundsException {
@@ -386,13 +389,13 @@ public final class Ownshelf {
   private boolean areLeftoversSound(Shelf one, Shelf other) {
     otherCopy.becomeGivingCopyOf(other);
     copy.becomeGivingCopyOf(one);
-    copy.takeAllOf(otherCopy);
+    copy.takeWhat(HAD, otherCopy);
     int leftByRemoving = copy.many;
     if (copy.hasAnyOf(otherCopy)) {
       return false;
     }
     copy.becomeGivingCopyOf(one);
-    copy.keepAllOf(otherCopy);
+    copy.takeWhat(NOT_HAD, otherCopy);
     return leftByRemoving + copy.many == one.many && otherCopy.hasAllOf(copy);
   }
 
@@ -661,20 +664,12 @@ public final class Ownshelf {
       return some;
     }
 
-    int takeAllOf(Shelf other) {
-      return takeWhereOther(other, true);
-    }
-
-    int keepAllOf(Shelf other) {
-      return takeWhereOther(other, false);
-    }
-
-    /** Each thing goes of which it is so that the other one has it, or has it not. */
-    private int takeWhereOther(Shelf other, boolean isToHave) {
+    /** What the other one has goes (HAD), or what it has not; answers as putAllOf does. */
+    int takeWhat(boolean isHad, Shelf other) {
       int some = 0;
       Walker walker = startWalker(looping);
       for (int k = 0; k <= MOST_THINGS && askWalker(walker); k++) {
-        if (other.has(stepWalker(walker)) == isToHave) {
+        if (other.has(stepWalker(walker)) == isHad) {
           if (!takeByWalker(walker)) {
             return REFUSED;
           }

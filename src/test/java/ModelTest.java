@@ -1,35 +1,13 @@
-import java.lang.reflect.InvocationTargetException;
 import java.lang.reflect.Method;
 import java.util.ArrayList;
 import java.util.Arrays;
-import java.util.Comparator;
-import java.util.HashMap;
 import java.util.List;
-import java.util.Map;
 import java.util.Random;
 
-/** Runs of 512 drawn calls, the same ones each time: Ownshelf answers as Model does. */
+/** Runs of 512 calls, drawn but for the last, digest: Ownshelf answers as Model does. */
 public final class ModelTest {
   private static final int RUNS = 1500;
-  private static final int CALLS = 512;
-
-  // A letter an argument: s shelf, t thing, w walk, r rule, l limit, b boolean, m many, n number,
-  // p place, q one of 0 to 4.
-  private static final Map<String, String> ARGUMENTS = new HashMap<>();
-
-  static {
-    String[] all = {
-      "make swrlb", "add st", "fill smnn", "remove st", "clear s", "addAll ss", "removeAll ss",
-      "retainAll ss", "addRow sttt", "removeRow sttt", "retainRow sttt", "removeNone sb",
-      "contains st", "containsAll ss", "containsRow sttt", "isEmpty s", "size s", "text s",
-      "areText ss", "sum s", "greatest s", "order s", "begin s", "ask s", "step s", "away s",
-      "rest s", "isHeld s", "thing sp", "count sq", "ofShelf sq", "areRows ss", "house q",
-      "knock ", "isSound ", "digest "
-    };
-    for (String one : all) {
-      ARGUMENTS.put(one.substring(0, one.indexOf(' ')), one.substring(one.indexOf(' ') + 1));
-    }
-  }
+  private static final int DRAWN = 511;
 
   // Drawn oftener than the others: shelves are to hold things, and walkers to go through them.
   private static final List<String> OFTEN =
@@ -38,11 +16,8 @@ public final class ModelTest {
   private static List<String> calls = new ArrayList<>();
 
   public static void main(String[] arguments) throws Exception {
-    Method[] methods = Ownshelf.class.getMethods();
-    methods = Arrays.stream(methods).filter(m -> ARGUMENTS.containsKey(m.getName()))
-        .sorted(Comparator.comparing(Method::getName)).toArray(Method[]::new);
     Check.part("drawn calls");
-    Check.due("how many methods are drawn", methods.length, ARGUMENTS.size());
+    Method[] methods = Calls.methods();
     for (int run = 0; run < RUNS; run++) {
       oneRun(run, methods);
     }
@@ -55,13 +30,13 @@ public final class ModelTest {
     Model model = new Model();
     calls.clear();
     boolean isRight = true;
-    for (int k = 0; k < CALLS && isRight; k++) {
+    for (int k = 0; k < DRAWN && isRight; k++) {
       Method method = drawMethod(random, methods);
       Object[] drawn = drawArguments(random, method, run % 3 == 0);
       calls.add(method.getName() + Arrays.toString(drawn));
-      Object got = answer(own, method, drawn);
+      Object got = Calls.answer(own, method, drawn);
       Method same = Model.class.getMethod(method.getName(), method.getParameterTypes());
-      Object want = answer(model, same, drawn);
+      Object want = Calls.answer(model, same, drawn);
       Check.due("run " + run + ", call " + k + " " + calls.get(k), got, want);
       isRight = got.equals(want);
     }
@@ -86,7 +61,7 @@ public final class ModelTest {
   }
 
   private static Object[] drawArguments(Random random, Method method, boolean isWide) {
-    String kinds = ARGUMENTS.get(method.getName());
+    String kinds = Calls.kinds(method);
     Object[] drawn = new Object[kinds.length()];
     for (int k = 0; k < drawn.length; k++) {
       char kind = kinds.charAt(k);
@@ -105,33 +80,12 @@ public final class ModelTest {
   }
 
   private static int drawNumber(Random random, char kind, boolean isWide) {
-    switch (kind) {
-      case 's':
-        return random.nextInt(4);
-      case 't':
-        return random.nextInt(isWide ? 101 : 8) - 1;
-      case 'w':
-        return random.nextInt(2);
-      case 'r':
-        return random.nextInt(7) / 3;
-      case 'l':
-        return 1 + random.nextInt(20);
-      case 'm':
-        return random.nextInt(21);
-      case 'n':
-        return random.nextInt(100);
-      case 'p':
-        return random.nextInt(20);
-      default:
-        return random.nextInt(5);
+    if (kind == 't' && !isWide) {
+      return random.nextInt(8) - 1;
     }
-  }
-
-  private static Object answer(Object asked, Method method, Object[] arguments) throws Exception {
-    try {
-      return method.invoke(asked, arguments);
-    } catch (InvocationTargetException e) {
-      return e.getCause().getClass();
+    if (kind == 'r') {
+      return random.nextInt(7) / 3; // a shelf that never takes a thing is drawn less often
     }
+    return Calls.least(kind) + random.nextInt(Calls.most(kind) - Calls.least(kind) + 1);
   }
 }

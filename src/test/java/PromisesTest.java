@@ -1,7 +1,5 @@
 /** Each promise of the document: ordinary calls, the edges that it names, and wrong arguments. */
-public final class PromisesTest {
-  private static final int REFUSED = -9;
-
+public final class PromisesTest extends Shelves {
   public static void main(String[] arguments) {
     newObject();
     make();
@@ -44,48 +42,6 @@ public final class PromisesTest {
     heldWalkers();
     throwingChangesNothing();
     Check.end("PromisesTest");
-  }
-
-  /** A new object whose shelf 0 is made so, with these things. */
-  private static Ownshelf with(int walk, int rule, int limit, boolean isGiving, int... things) {
-    Ownshelf x = new Ownshelf();
-    x.make(0, walk, rule, limit, isGiving);
-    put(x, 0, things);
-    return x;
-  }
-
-  private static Ownshelf with(int... things) {
-    return with(0, 0, 20, true, things);
-  }
-
-  private static void put(Ownshelf x, int shelf, int... things) {
-    for (int thing : things) {
-      x.add(shelf, thing);
-    }
-  }
-
-  private static String counts(Ownshelf x, int shelf) {
-    StringBuilder text = new StringBuilder();
-    for (int what = 0; what < 5; what++) {
-      text.append(what == 0 ? "" : " ").append(x.count(shelf, what));
-    }
-    return text.toString();
-  }
-
-  private static String row(Ownshelf x, int shelf) {
-    StringBuilder text = new StringBuilder();
-    for (int place = 0; place < x.ofShelf(shelf, 0); place++) {
-      text.append(place == 0 ? "" : " ").append(x.thing(shelf, place));
-    }
-    return text.toString();
-  }
-
-  private static String traits(Ownshelf x, int shelf) {
-    StringBuilder text = new StringBuilder();
-    for (int what = 0; what < 5; what++) {
-      text.append(what == 0 ? "" : " ").append(x.ofShelf(shelf, what));
-    }
-    return text.toString();
   }
 
   private static void newObject() {
@@ -751,9 +707,9 @@ public final class PromisesTest {
   }
 
   /** With 20 things a loop steps 20 times, and asks once more. */
-  private static void walksWhole(String call, Walked made) {
+  private static void walksWhole(String call, Use made) {
     Ownshelf x = withFullShelves();
-    made.call(x);
+    made.of(x);
     Check.due(call, x.count(0, 0) + " " + x.count(0, 1), "21 20");
   }
 
@@ -778,12 +734,12 @@ public final class PromisesTest {
   }
 
   /** Whether shelf 0 (1, 2, 3, a walker held) still holds it after a call with shelf 1 (2). */
-  private static void stays(String call, boolean isToStay, Walked made) {
+  private static void stays(String call, boolean isToStay, Use made) {
     Ownshelf x = with(1, 2, 3);
     put(x, 1, 2);
     x.begin(0);
     x.begin(1);
-    made.call(x);
+    made.of(x);
     Check.due("held after " + call, x.isHeld(0), isToStay);
     Check.due("held of the other after " + call, x.isHeld(1), true);
   }
@@ -791,10 +747,6 @@ public final class PromisesTest {
   private static void stepAway(Ownshelf x) {
     x.step(0);
     Check.due("away", x.away(0), 2);
-  }
-
-  private interface Walked {
-    void call(Ownshelf x);
   }
 
   private static void heldWalkers() {
