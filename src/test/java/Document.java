@@ -17,6 +17,7 @@ final class Document {
 
   /** By heading: the section's lines, but for signatures, empty lines and what stands in blocks. */
   private final Map<String, List<String>> sections = new LinkedHashMap<>();
+  /** By heading: its whole line. */
   private final Map<String, String> titles = new LinkedHashMap<>();
   private final Map<String, String> unquoted = new LinkedHashMap<>();
 
@@ -55,9 +56,14 @@ final class Document {
     return sections.keySet();
   }
 
-  /** The whole line of a heading. */
-  String title(String section) {
-    return titles.getOrDefault(section, "");
+  /** The heading of a method's promise. */
+  String sectionOf(String method) {
+    for (String section : titles.keySet()) {
+      if (titles.get(section).equals("## " + section + ": " + method)) {
+        return section;
+      }
+    }
+    throw new IllegalArgumentException(method);
   }
 
   /** The checks that follow test these words of this section. */

@@ -2,8 +2,9 @@ import java.lang.reflect.Method;
 import java.nio.file.Path;
 import java.util.ArrayList;
 import java.util.Arrays;
-import java.util.LinkedHashSet;
+import java.util.HashMap;
 import java.util.List;
+import java.util.Map;
 import java.util.Set;
 
 /**
@@ -19,16 +20,37 @@ public final class ThrowsTest extends Shelves {
 
   private static final String ALL_OF_USED = allOf(used());
 
-  private static final Set<String> thrown = new LinkedHashSet<>();
-
   public static void main(String[] arguments) throws Exception {
     Document document = new Document(Path.of(arguments[0]));
-    Check.part("arguments right and wrong");
     for (Method method : Calls.methods()) {
-      drawAll(method, Calls.kinds(method), new Object[Calls.kinds(method).length()], 0);
+      oneMethod(method, document, document.sectionOf(method.getName()));
     }
-    linesOfDocument(document);
     Check.end("ThrowsTest");
+  }
+
+  /** Each line that begins with Throws, and then the calls that throw nothing. */
+  private static void oneMethod(Method method, Document document, String section)
+      throws Exception {
+    String kinds = Calls.kinds(method);
+    Map<Class<?>, List<Object[]>> calls = new HashMap<>();
+    drawAll(method.getName(), kinds, new Object[kinds.length()], 0, calls);
+    for (String line : document.lines(section)) {
+      if (line.startsWith("Throws ")) {
+        document.quote(section, line);
+        Class<?> due = Class.forName("java.lang." + line.replaceAll("Throws `(\\w+)`.*", "$1"));
+        List<Object[]> throwing = calls.remove(due);
+        Check.due("is tested", throwing != null, true);
+        for (Object[] drawn : throwing) {
+          throwsAndChangesNothing(method, drawn, due);
+        }
+      }
+    }
+    Check.part(section + ": right arguments");
+    for (Object[] drawn : calls.remove(null)) {
+      Object got = Calls.answer(used(), method, drawn);
+      Check.due(call(method, drawn) + " throws", got instanceof Class ? got : null, null);
+    }
+    Check.due("exceptions that no line names", calls.keySet(), Set.of());
   }
 
   /** Shelves of many kinds, nearly all of which refuse; walkers stand in them. */
@@ -80,28 +102,30 @@ public final class ThrowsTest extends Shelves {
     return values;
   }
 
-  private static void drawAll(Method method, String kinds, Object[] drawn, int from)
-      throws Exception {
+  /** All rows of arguments, by the exception that is due (null: none). */
+  private static void drawAll(
+      String name, String kinds, Object[] drawn, int from, Map<Class<?>, List<Object[]>> calls) {
     if (from == drawn.length) {
-      check(method, kinds, drawn);
+      Class<?> due = dueOf(used(), name, kinds, drawn);
+      calls.computeIfAbsent(due, d -> new ArrayList<>()).add(drawn.clone());
       return;
     }
     for (Object value : values(kinds.charAt(from))) {
       drawn[from] = value;
-      drawAll(method, kinds, drawn, from + 1);
+      drawAll(name, kinds, drawn, from + 1, calls);
     }
   }
 
-  private static void check(Method method, String kinds, Object[] drawn) throws Exception {
+  private static String call(Method method, Object[] drawn) {
+    return method.getName() + Arrays.toString(drawn);
+  }
+
+  private static void throwsAndChangesNothing(Method method, Object[] drawn, Class<?> due)
+      throws Exception {
     Ownshelf x = used();
-    Class<?> due = dueOf(x, method.getName(), kinds, drawn);
     Object got = Calls.answer(x, method, drawn);
-    String call = method.getName() + Arrays.toString(drawn);
-    Check.due(call + " throws", got instanceof Class ? got : null, due);
-    if (due != null) {
-      thrown.add(method.getName() + " " + due.getSimpleName());
-      Check.due("all of it after " + call, allOf(x), ALL_OF_USED);
-    }
+    Check.due(call(method, drawn) + " throws", got instanceof Class ? got : null, due);
+    Check.due("all of it after " + call(method, drawn), allOf(x), ALL_OF_USED);
   }
 
   /** In the order in which the document names them. */
@@ -131,22 +155,5 @@ public final class ThrowsTest extends Shelves {
 
   private static boolean isNoPlace(Ownshelf x, int shelf, int place) {
     return place < 0 || place >= x.ofShelf(shelf, 0);
-  }
-
-  /** Each line that names an exception was tested, and no exception was due that none names. */
-  private static void linesOfDocument(Document document) {
-    Set<String> named = new LinkedHashSet<>();
-    for (String section : document.headings()) {
-      String method = document.title(section).replaceAll(".*: ", "");
-      for (String line : document.lines(section)) {
-        if (section.startsWith("Promise ") && line.startsWith("Throws ")) {
-          named.add(method + " " + line.replaceAll("Throws `(\\w+)`.*", "$1"));
-        }
-      }
-    }
-    Check.part("lines of the document that begin with Throws");
-    Check.due("are tested", thrown.containsAll(named), true);
-    Check.due("name what is due", named.containsAll(thrown), true);
-    Check.due("how many", thrown.size(), named.size());
   }
 }
