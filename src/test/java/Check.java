@@ -11,6 +11,17 @@ final class Check {
   private static int wrong = 0;
   private static String part = "";
 
+  static {
+    // A call that throws where no exception is due ends the program: which part was it?
+    Thread.currentThread()
+        .setUncaughtExceptionHandler(
+            (thread, thrown) -> {
+              System.out.println(part + ": threw " + thrown);
+              thrown.printStackTrace();
+              System.exit(1);
+            });
+  }
+
   private Check() {}
 
   static void part(String name) {

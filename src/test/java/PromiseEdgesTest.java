@@ -377,6 +377,7 @@ public final class PromiseEdgesTest extends Shelves {
     Ownshelf x = and(with(1, 2), 2, 1);
     Check.due("both empty", x.areText(2, 3) + " " + counts(x, 2), "true 1 0 0 0 0");
     Check.due("an empty one", x.areText(0, 2) + " " + x.areText(2, 0), "false false");
+    Check.due("both are walked", counts(x, 0) + ", " + counts(x, 2), "6 4 0 2 0, 3 0 0 0 0");
     Check.due("another order", x.areText(0, 1) + " " + counts(x, 1), "false 3 2 0 2 0");
     x.make(1, BACK, ANY, MOST, true);
     put(x, 1, 2, 1);

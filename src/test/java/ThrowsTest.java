@@ -18,10 +18,12 @@ public final class ThrowsTest extends Shelves {
 
   private static final Set<String> WALKER_METHODS = Set.of("ask", "step", "away", "rest");
 
-  private static final String ALL_OF_USED = allOf(used());
+  private static String untouched;
 
   public static void main(String[] arguments) throws Exception {
     Document document = new Document(Path.of(arguments[0]));
+    Check.part("an object that no call has changed");
+    untouched = allOf(used());
     for (Method method : Calls.methods()) {
       oneMethod(method, document, document.sectionOf(method.getName()));
     }
@@ -125,7 +127,7 @@ public final class ThrowsTest extends Shelves {
     Ownshelf x = used();
     Object got = Calls.answer(x, method, drawn);
     Check.due(call(method, drawn) + " throws", got instanceof Class ? got : null, due);
-    Check.due("all of it after " + call(method, drawn), allOf(x), ALL_OF_USED);
+    Check.due("all of it after " + call(method, drawn), allOf(x), untouched);
   }
 
   /** In the order in which the document names them. */
