@@ -659,23 +659,7 @@ public final class PromisesTest extends Shelves {
   }
 
   private static long digestOfTold(Ownshelf x, String... texts) {
-    long d = 7786;
-    for (int what = 0; what < 5; what++) {
-      d = d * 31 + x.house(what);
-    }
-    for (int shelf = 0; shelf < 4; shelf++) {
-      for (int k = 0; k < 10; k++) {
-        d = d * 31 + (k < 5 ? x.ofShelf(shelf, k) : x.count(shelf, k - 5));
-      }
-      for (int place = 0; place < x.ofShelf(shelf, 0); place++) {
-        d = d * 31 + x.thing(shelf, place);
-      }
-      d = d * 31 + (x.isHeld(shelf) ? 1 : 0);
-      for (int k = 0; k < texts[shelf].length(); k++) {
-        d = d * 31 + texts[shelf].charAt(k);
-      }
-    }
-    return d * 31 + 1;
+    return unwrapped(x, 1, texts).longValue();
   }
 
   private static void digest() {
